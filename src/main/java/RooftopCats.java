@@ -966,7 +966,6 @@ public final class RooftopCats {
             waits = true;
             girth = size;
             strength = force;
-            Arrays.fill(ballots, OPEN);
         }
 
         void leave() {

@@ -285,6 +285,11 @@ public final class CatsTest {
         Check.that("nothing is left", x.fish(1), 0);
         Check.that("violations", x.violations(), 0);
 
+        RooftopCats one = Text.roof("roof;chimney 1;chimney 1;chimney 1;gutter 0 1 9;cat 0 1 9;cat 1 1 1;cat 2 1 1;truce 1 2 4 1;");
+        one.chase(0, 1);
+        Check.that("its last fish is taken", one.fish(0), 6);
+        Check.that("nothing is left", one.fish(1), 0);
+
         RooftopCats y = Text.roof("roof;chimney 9;chimney 9;gutter 0 1 9;cat 0 1 9;claim 0;cat 1 1 1;claim 1;repeat 2(nights 30;);");
         Check.that("99 fish", y.fish(0), 99);
         Check.that("99 fish", y.fish(1), 99);

@@ -14,6 +14,7 @@ public final class InputTest {
         repeats();
         manyCommands();
         errorStays();
+        scriptAfterScript();
         Check.end("InputTest");
     }
 
@@ -239,6 +240,7 @@ public final class InputTest {
         errorAt(2, cats + "truce 0 1 1 ^0;");
         errorAt(2, cats + "truce 0 1 1 ^21;");
         right(cats + "truce 0 1 5 20;");
+        right("roof;chimney 3;chimney 1;cat 0 1 1;cat 1 1 1;claim 0;nights 4;truce 0 1 9 20;");
         errorAt(2, cats + "kitten ^0 1;");
         errorAt(2, cats + "kitten ^10 1;");
         errorAt(2, cats + "kitten 1 ^0;");
@@ -338,5 +340,30 @@ public final class InputTest {
         text.replace(592, 600, "repeat 1");
         Check.that("the end of 600 bytes", Text.run(y, text.toString()), NONE);
         Check.that("offset of the end", y.scriptErrorOffset(), 600);
+    }
+
+    /** A script finds nothing of an earlier one, whether this had an error or not. */
+    private static void scriptAfterScript() {
+        String much = "roof;chimney 9;chimney 1;chimney 1;gutter 0 1 9;gutter 1 2 9;cat 0 1 1;cat 1 1 1;claim 0;truce 0 1 1 20;"
+                + "kitten 5 5;yes 0;repeat 2(repeat 5(nights 1;););";
+        String[] before = {much, much + "nights 0;", much + "repeat 2(repeat 2(claim 0;", much + "repeat 20(repeat 20(nights 1;););"};
+        String[] due = {"roof;", "roof;chimney 1;chimney 2;cat 1 1 1;cat 0 1 1;", "roof;repeat 2(repeat 2(chimney 1;););cat 3 1 1;kitten 1 1;",
+            "roof;chimney 1;chimney 1;cat 0 1 1;nights 2;cat 1 1 1;", "roof;repeat 20(repeat 10(nights 1;););"};
+        for (String first : before) {
+            for (String second : due) {
+                RooftopCats x = new RooftopCats();
+                Text.run(x, first);
+                Text.run(x, second);
+                Check.that("no error of " + second, x.scriptErrorKind(), 0);
+                Check.that("roof of " + second, Look.atRoof(x), Look.atRoof(Text.roof(second)));
+            }
+            RooftopCats y = new RooftopCats();
+            Text.run(y, first);
+            Check.that("no repeat is open", Text.run(y, "roof;);"), NONE);
+            Check.that("kind", y.scriptErrorKind(), 1);
+            Check.that("offset", y.scriptErrorOffset(), 5);
+            Text.run(y, "roof;chimney 1;chimney 1;gutter 0 1 1;cat 0 1 1;step 0 1;");
+            Check.that("no second gutter", y.scriptErrorKind(), 2);
+        }
     }
 }

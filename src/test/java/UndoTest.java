@@ -13,6 +13,7 @@ public final class UndoTest {
         noChanges();
         snapshot();
         snapshotKeeps();
+        kittenComesBack();
         Check.end("UndoTest");
     }
 
@@ -170,5 +171,23 @@ public final class UndoTest {
         x.passNights(1);
         x.restoreSnapshot();
         Check.that("as saved", Look.atRoof(x), saved);
+    }
+
+    /** Also the girth and the strength of a kitten, which only its admission shows, are restored. */
+    private static void kittenComesBack() {
+        RooftopCats x = Text.roof("roof;repeat 4(chimney 1;);cat 0 1 1;kitten 2 3;");
+        x.saveSnapshot();
+        Check.that("admitted", x.vote(0, true), true);
+        x.nominate(7, 8);
+        x.undo();
+        x.undo();
+        x.vote(0, true);
+        Check.that("girth", x.girth(1), 2);
+        Check.that("strength", x.power(1), 3);
+        x.nominate(9, 9);
+        x.restoreSnapshot();
+        x.vote(0, true);
+        Check.that("girth", x.girth(1), 2);
+        Check.that("strength", x.power(1), 3);
     }
 }
