@@ -49,7 +49,12 @@ final class Check {
 
     /** The numbers just outside of 0 to count - 1, and the farthest ones. */
     static int[] outside(int count) {
-        return new int[] {-1, count, Integer.MIN_VALUE, Integer.MAX_VALUE};
+        return outside(0, count - 1);
+    }
+
+    /** The numbers just outside of a range, and the farthest ones. */
+    static int[] outside(int least, int most) {
+        return new int[] {least - 1, most + 1, Integer.MIN_VALUE, Integer.MAX_VALUE};
     }
 
     private static void note(boolean right, String what, String got, String due) {

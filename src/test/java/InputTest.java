@@ -119,172 +119,150 @@ public final class InputTest {
                 + "; cat 4 8 5 0 false truces 0 0 0; kitten false 0 0; violations 0");
     }
 
-    private static void error(String text, int kind, int offset) {
-        RooftopCats x = new RooftopCats();
-        String before = Look.atRoof(x);
-        Check.that("run of " + text, Text.run(x, text), NONE);
-        Check.that("error kind of " + text, x.scriptErrorKind(), kind);
-        Check.that("error offset of " + text, x.scriptErrorOffset(), offset);
-        Check.that("roof after " + text, Look.atRoof(x), before);
-        Check.that("undo count after " + text, x.undoCount(), 0);
-    }
-
-    /** The error is at the sign ^, which is taken out. */
-    private static void errorAt(int kind, String text) {
-        error(text.replace("^", ""), kind, text.indexOf('^'));
-    }
-
-    private static void right(String text) {
-        RooftopCats x = Text.roof(text);
-        Check.that("offset without an error", x.scriptErrorOffset(), NONE);
-        Check.that("violations", x.violations(), 0);
-        Check.that("undo count", x.undoCount(), 1);
-    }
-
     private static void tokens() {
-        right("roof;");
-        right("\n roof \n;\n ");
-        right("roof;chimney1;chimney2;gutter0 1\n9;cat0 1 1;");
-        right("roof;chimney 001;chimney 009;gutter 000 001 009;");
-        right("roof;repeat 2(chimney 1;);repeat\n2\n(\n)\n;");
-        errorAt(1, "roof;chimney ^0001;");
-        errorAt(1, "roof;chimney ^1234567890123456789012345;");
-        errorAt(2, "roof;chimney ^999;");
-        errorAt(1, "roof;chimney 1^a;");
-        errorAt(1, "roof;chimney ^-1;");
-        errorAt(1, "roof;^Chimney 1;");
-        errorAt(1, "roof;^\t");
-        errorAt(1, "roof;^\r\n");
-        errorAt(1, "roof;^\0");
-        errorAt(1, "roof;^\u00ff");
-        errorAt(1, "roof;^`");
-        errorAt(1, "roof;^{");
-        errorAt(1, "roof;chimney ^/");
-        errorAt(1, "roof;chimney ^:");
-        errorAt(1, "roof;chimney 1^,");
-        errorAt(1, "roof;chimney 1^\u00bb");
+        Text.right("roof;");
+        Text.right("\n roof \n;\n ");
+        Text.right("roof;chimney1;chimney2;gutter0 1\n9;cat0 1 1;");
+        Text.right("roof;chimney 001;chimney 009;gutter 000 001 009;");
+        Text.right("roof;repeat 2(chimney 1;);repeat\n2\n(\n)\n;");
+        Text.errorAt(1, "roof;chimney ^0001;");
+        Text.errorAt(1, "roof;chimney ^1234567890123456789012345;");
+        Text.errorAt(2, "roof;chimney ^999;");
+        Text.errorAt(1, "roof;chimney 1^a;");
+        Text.errorAt(1, "roof;chimney ^-1;");
+        Text.errorAt(1, "roof;^Chimney 1;");
+        Text.errorAt(1, "roof;^\t");
+        Text.errorAt(1, "roof;^\r\n");
+        Text.errorAt(1, "roof;^\0");
+        Text.errorAt(1, "roof;^\u00ff");
+        Text.errorAt(1, "roof;^`");
+        Text.errorAt(1, "roof;^{");
+        Text.errorAt(1, "roof;chimney ^/");
+        Text.errorAt(1, "roof;chimney ^:");
+        Text.errorAt(1, "roof;chimney 1^,");
+        Text.errorAt(1, "roof;chimney 1^\u00bb");
     }
 
     private static void grammarErrors() {
-        errorAt(1, "^");
-        errorAt(1, "  \n^");
-        errorAt(1, "roof^");
-        errorAt(1, "roof  ^");
-        errorAt(1, "^roo;");
-        errorAt(1, "^roofs;");
-        errorAt(1, "^chimney 1;");
-        errorAt(1, "^;");
-        errorAt(1, "^1;");
-        errorAt(1, "roof^(");
-        errorAt(1, "roof;^;");
-        errorAt(1, "roof;^roof;");
-        errorAt(1, "roof;^1;");
-        errorAt(1, "roof;^(chimney 1;);");
-        errorAt(1, "roof;^);");
-        errorAt(1, "roof;^chimneys 1;");
-        errorAt(1, "roof;^chimne 1;");
-        errorAt(1, "roof;chimney ^;");
-        errorAt(1, "roof;chimney ^");
-        errorAt(1, "roof;chimney 1^");
-        errorAt(1, "roof;chimney 1 \n^");
-        errorAt(1, "roof;chimney ^one;");
-        errorAt(1, "roof;chimney ^(1);");
-        errorAt(1, "roof;chimney 1 ^2;");
-        errorAt(1, "roof;chimney 1 ^chimney 2;");
-        errorAt(1, "roof;chimney 1^);");
-        errorAt(1, "roof;chimney 1;chimney 1;gutter 0 1^;");
-        errorAt(1, "roof;chimney 1;chimney 1;gutter 0 1 1 ^1;");
-        errorAt(1, "roof;repeat ^(");
-        errorAt(1, "roof;repeat 2 ^chimney 1;");
-        errorAt(1, "roof;repeat 2 (^");
-        errorAt(1, "roof;repeat 2 (chimney 1;^");
-        errorAt(1, "roof;repeat 2 (chimney 1^);");
-        errorAt(1, "roof;repeat 2 (chimney 1;)^");
-        errorAt(1, "roof;repeat 2 (chimney 1;) ^chimney 1;");
-        errorAt(1, "roof;repeat 2 (chimney 1;)^);");
-        errorAt(1, "roof;repeat 2 (^;);");
-        errorAt(1, "roof;repeat 2 (repeat 2 (chimney 1;)^);");
+        Text.errorAt(1, "^");
+        Text.errorAt(1, "  \n^");
+        Text.errorAt(1, "roof^");
+        Text.errorAt(1, "roof  ^");
+        Text.errorAt(1, "^roo;");
+        Text.errorAt(1, "^roofs;");
+        Text.errorAt(1, "^chimney 1;");
+        Text.errorAt(1, "^;");
+        Text.errorAt(1, "^1;");
+        Text.errorAt(1, "roof^(");
+        Text.errorAt(1, "roof;^;");
+        Text.errorAt(1, "roof;^roof;");
+        Text.errorAt(1, "roof;^1;");
+        Text.errorAt(1, "roof;^(chimney 1;);");
+        Text.errorAt(1, "roof;^);");
+        Text.errorAt(1, "roof;^chimneys 1;");
+        Text.errorAt(1, "roof;^chimne 1;");
+        Text.errorAt(1, "roof;chimney ^;");
+        Text.errorAt(1, "roof;chimney ^");
+        Text.errorAt(1, "roof;chimney 1^");
+        Text.errorAt(1, "roof;chimney 1 \n^");
+        Text.errorAt(1, "roof;chimney ^one;");
+        Text.errorAt(1, "roof;chimney ^(1);");
+        Text.errorAt(1, "roof;chimney 1 ^2;");
+        Text.errorAt(1, "roof;chimney 1 ^chimney 2;");
+        Text.errorAt(1, "roof;chimney 1^);");
+        Text.errorAt(1, "roof;chimney 1;chimney 1;gutter 0 1^;");
+        Text.errorAt(1, "roof;chimney 1;chimney 1;gutter 0 1 1 ^1;");
+        Text.errorAt(1, "roof;repeat ^(");
+        Text.errorAt(1, "roof;repeat 2 ^chimney 1;");
+        Text.errorAt(1, "roof;repeat 2 (^");
+        Text.errorAt(1, "roof;repeat 2 (chimney 1;^");
+        Text.errorAt(1, "roof;repeat 2 (chimney 1^);");
+        Text.errorAt(1, "roof;repeat 2 (chimney 1;)^");
+        Text.errorAt(1, "roof;repeat 2 (chimney 1;) ^chimney 1;");
+        Text.errorAt(1, "roof;repeat 2 (chimney 1;)^);");
+        Text.errorAt(1, "roof;repeat 2 (^;);");
+        Text.errorAt(1, "roof;repeat 2 (repeat 2 (chimney 1;)^);");
         // A refusal is only found at the semicolon, an earlier number at its own place.
-        errorAt(1, "roof;chimney 1;cat 0 1 1;claim 0;claim 0 ^0;");
-        errorAt(2, "roof;gutter ^0 x");
+        Text.errorAt(1, "roof;chimney 1;cat 0 1 1;claim 0;claim 0 ^0;");
+        Text.errorAt(2, "roof;gutter ^0 x");
     }
 
     private static void numberErrors() {
-        errorAt(2, "roof;chimney ^10;");
+        Text.errorAt(2, "roof;chimney ^10;");
         String two = "roof;chimney 1;chimney 1;";
-        errorAt(2, two + "gutter ^2 1 1;");
-        errorAt(2, two + "gutter 0 ^2 1;");
-        errorAt(2, two + "gutter 0 ^0 1;");
-        errorAt(2, two + "gutter 0 1 ^0;");
-        errorAt(2, two + "gutter 0 1 ^10;");
-        right(two + "gutter 1 0 9;gutter 0 1 1;");
-        errorAt(2, two + "cat ^2 1 1;");
-        errorAt(2, two + "cat 1 ^0 1;");
-        errorAt(2, two + "cat 1 ^10 1;");
-        errorAt(2, two + "cat 1 1 ^0;");
-        errorAt(2, two + "cat 1 1 ^10;");
-        right(two + "cat 1 9 9;cat 0 1 1;");
+        Text.errorAt(2, two + "gutter ^2 1 1;");
+        Text.errorAt(2, two + "gutter 0 ^2 1;");
+        Text.errorAt(2, two + "gutter 0 ^0 1;");
+        Text.errorAt(2, two + "gutter 0 1 ^0;");
+        Text.errorAt(2, two + "gutter 0 1 ^10;");
+        Text.right(two + "gutter 1 0 9;gutter 0 1 1;");
+        Text.errorAt(2, two + "cat ^2 1 1;");
+        Text.errorAt(2, two + "cat 1 ^0 1;");
+        Text.errorAt(2, two + "cat 1 ^10 1;");
+        Text.errorAt(2, two + "cat 1 1 ^0;");
+        Text.errorAt(2, two + "cat 1 1 ^10;");
+        Text.right(two + "cat 1 9 9;cat 0 1 1;");
         String cats = two + "gutter 0 1 9;cat 0 1 9;cat 1 1 1;";
-        errorAt(2, cats + "step ^2 0;");
-        errorAt(2, cats + "step 0 ^1;");
-        errorAt(2, cats + "claim ^2;");
-        errorAt(2, cats + "abandon ^2;");
-        errorAt(2, cats + "chase ^2 0;");
-        errorAt(2, cats + "chase 0 ^2;");
-        errorAt(2, cats + "chase 1 ^1;");
-        errorAt(2, cats + "truce ^2 0 1 1;");
-        errorAt(2, cats + "truce 0 ^2 1 1;");
-        errorAt(2, cats + "truce 1 ^1 1 1;");
-        errorAt(2, cats + "truce 0 1 ^0 1;");
-        errorAt(2, cats + "truce 0 1 ^10 1;");
-        errorAt(2, cats + "truce 0 1 1 ^0;");
-        errorAt(2, cats + "truce 0 1 1 ^21;");
-        right(cats + "truce 0 1 5 20;");
-        right("roof;chimney 3;chimney 1;cat 0 1 1;cat 1 1 1;claim 0;nights 4;truce 0 1 9 20;");
-        errorAt(2, cats + "kitten ^0 1;");
-        errorAt(2, cats + "kitten ^10 1;");
-        errorAt(2, cats + "kitten 1 ^0;");
-        errorAt(2, cats + "kitten 1 ^10;");
-        right(cats + "kitten 9 9;");
-        errorAt(2, cats + "kitten 1 1;yes ^2;");
-        errorAt(2, cats + "kitten 1 1;no ^2;");
-        errorAt(2, cats + "nights ^0;");
-        errorAt(2, cats + "nights ^31;");
-        right(cats + "nights 30;nights 1;");
-        errorAt(2, cats + "repeat ^0 (nights 1;);");
-        errorAt(2, cats + "repeat ^21 (nights 1;);");
-        right(cats + "repeat 20 (nights 1;);repeat 1 (nights 1;);");
+        Text.errorAt(2, cats + "step ^2 0;");
+        Text.errorAt(2, cats + "step 0 ^1;");
+        Text.errorAt(2, cats + "claim ^2;");
+        Text.errorAt(2, cats + "abandon ^2;");
+        Text.errorAt(2, cats + "chase ^2 0;");
+        Text.errorAt(2, cats + "chase 0 ^2;");
+        Text.errorAt(2, cats + "chase 1 ^1;");
+        Text.errorAt(2, cats + "truce ^2 0 1 1;");
+        Text.errorAt(2, cats + "truce 0 ^2 1 1;");
+        Text.errorAt(2, cats + "truce 1 ^1 1 1;");
+        Text.errorAt(2, cats + "truce 0 1 ^0 1;");
+        Text.errorAt(2, cats + "truce 0 1 ^10 1;");
+        Text.errorAt(2, cats + "truce 0 1 1 ^0;");
+        Text.errorAt(2, cats + "truce 0 1 1 ^21;");
+        Text.right(cats + "truce 0 1 5 20;");
+        Text.right("roof;chimney 3;chimney 1;cat 0 1 1;cat 1 1 1;claim 0;nights 4;truce 0 1 9 20;");
+        Text.errorAt(2, cats + "kitten ^0 1;");
+        Text.errorAt(2, cats + "kitten ^10 1;");
+        Text.errorAt(2, cats + "kitten 1 ^0;");
+        Text.errorAt(2, cats + "kitten 1 ^10;");
+        Text.right(cats + "kitten 9 9;");
+        Text.errorAt(2, cats + "kitten 1 1;yes ^2;");
+        Text.errorAt(2, cats + "kitten 1 1;no ^2;");
+        Text.errorAt(2, cats + "nights ^0;");
+        Text.errorAt(2, cats + "nights ^31;");
+        Text.right(cats + "nights 30;nights 1;");
+        Text.errorAt(2, cats + "repeat ^0 (nights 1;);");
+        Text.errorAt(2, cats + "repeat ^21 (nights 1;);");
+        Text.right(cats + "repeat 20 (nights 1;);repeat 1 (nights 1;);");
     }
 
     private static void refusals() {
         String two = "roof;chimney 1;chimney 1;";
         String cats = two + "gutter 0 1 8;cat 0 1 9;cat 1 1 1;";
-        errorAt(3, "roof;repeat 10(chimney 1;);chimney 9^;");
-        errorAt(3, two + "repeat 20(gutter 0 1 1;);gutter 0 1 1^;");
-        errorAt(3, two + "cat 0 1 1;cat 0 1 1 ^;");
-        errorAt(3, cats + "step 0 0^;");
-        errorAt(3, cats + "claim 0;claim 0^;");
-        errorAt(3, cats + "abandon 0^;");
-        errorAt(3, cats + "chase 1 0^;");
-        errorAt(3, cats + "truce 0 1 6 1^;");
-        errorAt(3, two + "kitten 1 1^;");
-        errorAt(3, cats + "yes 0^;");
-        errorAt(3, cats + "no 0^;");
-        errorAt(3, cats + "kitten 1 1;yes 0;no 0^;");
-        errorAt(3, "roof;repeat 20(nights 30;);repeat 13(nights 30;);nights 9;nights 1^;");
-        right("roof;repeat 20(nights 30;);repeat 13(nights 30;);nights 9;");
-        errorAt(3, "roof;repeat 20(nights 30;);repeat 13(nights 30;);nights 10^;");
+        Text.errorAt(3, "roof;repeat 10(chimney 1;);chimney 9^;");
+        Text.errorAt(3, two + "repeat 20(gutter 0 1 1;);gutter 0 1 1^;");
+        Text.errorAt(3, two + "cat 0 1 1;cat 0 1 1 ^;");
+        Text.errorAt(3, cats + "step 0 0^;");
+        Text.errorAt(3, cats + "claim 0;claim 0^;");
+        Text.errorAt(3, cats + "abandon 0^;");
+        Text.errorAt(3, cats + "chase 1 0^;");
+        Text.errorAt(3, cats + "truce 0 1 6 1^;");
+        Text.errorAt(3, two + "kitten 1 1^;");
+        Text.errorAt(3, cats + "yes 0^;");
+        Text.errorAt(3, cats + "no 0^;");
+        Text.errorAt(3, cats + "kitten 1 1;yes 0;no 0^;");
+        Text.errorAt(3, "roof;repeat 20(nights 30;);repeat 13(nights 30;);nights 9;nights 1^;");
+        Text.right("roof;repeat 20(nights 30;);repeat 13(nights 30;);nights 9;");
+        Text.errorAt(3, "roof;repeat 20(nights 30;);repeat 13(nights 30;);nights 10^;");
         // An error in a later repetition.
-        errorAt(3, "roof;repeat 11(chimney 1 ^;);");
-        errorAt(3, two + "cat 0 1 1;repeat 2(claim 0^;);");
-        errorAt(3, two + "cat 0 1 1;cat 1 1 1;kitten 1 1;repeat 2(yes 0^;);");
+        Text.errorAt(3, "roof;repeat 11(chimney 1 ^;);");
+        Text.errorAt(3, two + "cat 0 1 1;repeat 2(claim 0^;);");
+        Text.errorAt(3, two + "cat 0 1 1;cat 1 1 1;kitten 1 1;repeat 2(yes 0^;);");
     }
 
     private static void repeats() {
-        errorAt(4, "roof;repeat 1(repeat 1(^repeat 1(chimney 1;););););");
-        errorAt(4, "roof;repeat 1(repeat 1(chimney 1;^repeat x");
-        errorAt(1, "roof;repeat 1(repeat 1(chimney ^repeat");
-        right("roof;repeat 2(repeat 2(chimney 1;);repeat 2(chimney 2;););");
+        Text.errorAt(4, "roof;repeat 1(repeat 1(^repeat 1(chimney 1;););););");
+        Text.errorAt(4, "roof;repeat 1(repeat 1(chimney 1;^repeat x");
+        Text.errorAt(1, "roof;repeat 1(repeat 1(chimney ^repeat");
+        Text.right("roof;repeat 2(repeat 2(chimney 1;);repeat 2(chimney 2;););");
         RooftopCats x = Text.roof("roof;repeat 2(repeat 2(chimney 1;);chimney 2;repeat 1(chimney 3;););");
         int[] due = {1, 1, 2, 3, 1, 1, 2, 3};
         Check.that("chimneys", x.chimneyCount(), due.length);
@@ -297,18 +275,18 @@ public final class InputTest {
     }
 
     private static void manyCommands() {
-        right("roof;repeat 20(repeat 10(nights 1;););");
-        errorAt(5, "roof;repeat 20(repeat 10(nights 1;););^nights 1;");
-        errorAt(5, "roof;repeat 20(repeat 11(^nights 1;););");
-        errorAt(5, "roof;chimney 1;repeat 20(repeat 10(^nights 1;););");
-        errorAt(5, "roof;repeat 20(repeat 10(nights 1;););^nights x");
-        errorAt(1, "roof;repeat 20(repeat 10(nights 1;););^night 1;");
-        errorAt(1, "roof;repeat 20(repeat 10(nights 1;););^;");
+        Text.right("roof;repeat 20(repeat 10(nights 1;););");
+        Text.errorAt(5, "roof;repeat 20(repeat 10(nights 1;););^nights 1;");
+        Text.errorAt(5, "roof;repeat 20(repeat 11(^nights 1;););");
+        Text.errorAt(5, "roof;chimney 1;repeat 20(repeat 10(^nights 1;););");
+        Text.errorAt(5, "roof;repeat 20(repeat 10(nights 1;););^nights x");
+        Text.errorAt(1, "roof;repeat 20(repeat 10(nights 1;););^night 1;");
+        Text.errorAt(1, "roof;repeat 20(repeat 10(nights 1;););^;");
         // A repeat does not count.
-        right("roof;repeat 20(repeat 10(nights 1;););repeat 2(repeat 2(););");
-        errorAt(5, "roof;repeat 20(repeat 10(nights 1;););repeat 2(^nights 1;);");
-        errorAt(4, "roof;repeat 20(repeat 10(nights 1;););repeat 2(repeat 2(^repeat 2();););");
-        errorAt(2, "roof;repeat 20(repeat 10(nights 1;););repeat ^0();");
+        Text.right("roof;repeat 20(repeat 10(nights 1;););repeat 2(repeat 2(););");
+        Text.errorAt(5, "roof;repeat 20(repeat 10(nights 1;););repeat 2(^nights 1;);");
+        Text.errorAt(4, "roof;repeat 20(repeat 10(nights 1;););repeat 2(repeat 2(^repeat 2();););");
+        Text.errorAt(2, "roof;repeat 20(repeat 10(nights 1;););repeat ^0();");
     }
 
     private static void errorStays() {

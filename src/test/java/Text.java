@@ -35,4 +35,24 @@ final class Text {
         Check.that("error of " + text + " at " + x.scriptErrorOffset(), x.scriptErrorKind(), 0);
         return x;
     }
+
+    /** The script has an error of this kind at the sign ^, which is taken out; nothing else changes. */
+    static void errorAt(int kind, String marked) {
+        String text = marked.replace("^", "");
+        RooftopCats x = new RooftopCats();
+        String before = Look.atRoof(x);
+        Check.that("run of " + text, run(x, text), RooftopCats.NONE);
+        Check.that("error kind of " + text, x.scriptErrorKind(), kind);
+        Check.that("error offset of " + text, x.scriptErrorOffset(), marked.indexOf('^'));
+        Check.that("roof after " + text, Look.atRoof(x), before);
+        Check.that("undo count after " + text, x.undoCount(), 0);
+    }
+
+    /** The script has no error. */
+    static void right(String text) {
+        RooftopCats x = roof(text);
+        Check.that("offset without an error", x.scriptErrorOffset(), RooftopCats.NONE);
+        Check.that("violations", x.violations(), 0);
+        Check.that("undo count", x.undoCount(), 1);
+    }
 }
