@@ -22,8 +22,10 @@ public final class ScriptEdgeTest {
         latestScriptCounts();
         eachByte();
         maximalRuns();
+        eachWord();
         digits();
         eachEnd();
+        eachCommand();
         ranges();
         sameNumbers();
         roofRefusals();
@@ -200,6 +202,14 @@ public final class ScriptEdgeTest {
                 + "; kitten true 0 0; violations 0");
         Check.that("snapshot", x.restoreSnapshot(), 3);
         Check.that("snapshot", Look.atRoof(x), Look.atRoof(new RooftopCats()));
+        // Nor of the script before: a truce, a vote, a gutter, an owner, fish and nights.
+        String few = "roof;chimney 2;chimney 2;chimney 2;cat 0 1 1;cat 1 1 9;cat 2 1 1;kitten 2 2;";
+        Text.run(x, few + "gutter 0 1 9;claim 1;truce 0 1 1 20;truce 1 2 1 20;nights 3;yes 0;");
+        Text.run(x, few);
+        Check.that("roof", Look.atRoof(x), Look.atRoof(Text.roof(few)));
+        Check.that("no gutter", x.whyNoChase(1, 0), 7);
+        Check.that("not in a choir", x.choirOf(0), 1);
+        Check.that("no way", x.widestWay(0, 1), NONE);
     }
 
     /** "If the script has an error, only the input buffer and the script error change." */
@@ -292,6 +302,25 @@ public final class ScriptEdgeTest {
         Text.errorAt(2, "roof;chimney 1;chimney 1;gutter ^011;");
     }
 
+    /** "a token that the grammar does not allow at this place": each word with one letter changed, left out or added. */
+    private static void eachWord() {
+        String[] words = {"roof", "chimney", "gutter", "cat", "step", "claim", "abandon", "chase", "truce", "kitten", "yes", "no", "nights", "repeat"};
+        for (String word : words) {
+            String before = word.equals("roof") ? "" : "roof;";
+            for (int i = 0; i < word.length(); i++) {
+                String rest = word.substring(i + 1);
+                Text.errorAt(1, before + "^" + word.substring(0, i) + (word.charAt(i) == 'z' ? 'a' : (char) (word.charAt(i) + 1)) + rest + ";");
+                Text.errorAt(1, before + "^" + word.substring(0, i) + rest + "q;");
+                Text.errorAt(1, before + "^" + word.substring(0, i) + rest + ";");
+                Text.errorAt(1, before + "^" + word.substring(0, i) + "q" + word.substring(i) + ";");
+                Text.errorAt(1, before + "^" + word.substring(0, i) + Character.toUpperCase(word.charAt(i)) + rest + ";");
+            }
+            Text.errorAt(1, before + "^" + word + "q;");
+            Text.errorAt(1, "roof;nights ^" + word + ";");
+            Text.errorAt(1, "roof;repeat 2^" + word + ";");
+        }
+    }
+
     /** "a run of more than 3 digits": one to five digits, whatever their value. */
     private static void digits() {
         Text.right("roof;chimney 7;chimney 07;chimney 007;");
@@ -330,6 +359,27 @@ public final class ScriptEdgeTest {
             Text.right(text);
         }
         Text.right("roof; \n ");
+    }
+
+    /** "The commands stand for the methods": each does as its method on the roof of another object. */
+    private static void eachCommand() {
+        String[] commands = {"chimney 9;", "gutter 3 2 8;", "cat 2 8 9;", "step 0 1;", "claim 2;", "abandon 1;", "chase 0 1;", "truce 2 0 3 19;",
+            "kitten 8 9;", "kitten 1 2;yes 1;", "kitten 1 2;no 1;", "nights 29;"};
+        Twin.Call[] calls = {x -> x.addChimney(9), x -> x.addGutter(3, 2, 8), x -> x.addCat(2, 8, 9), x -> x.step(0, 1), x -> x.claim(2),
+            x -> x.abandon(1), x -> x.chase(0, 1), x -> x.buyTruce(2, 0, 3, 19), x -> x.nominate(8, 9),
+            x -> vote(x, true), x -> vote(x, false), x -> x.passNights(29)};
+        String roof = SOME + "claim 1;";
+        for (int i = 0; i < commands.length; i++) {
+            RooftopCats x = Text.roof(roof + commands[i]);
+            RooftopCats y = Text.roof(roof);
+            calls[i].make(y);
+            Check.that(commands[i], Look.atRoof(x), Look.atRoof(y));
+        }
+    }
+
+    private static void vote(RooftopCats x, boolean yes) {
+        x.nominate(1, 2);
+        x.vote(1, yes);
     }
 
     // ---- kind 2
@@ -505,6 +555,9 @@ public final class ScriptEdgeTest {
         Text.errorAt(1, "roof;repeat 2()^");
         Text.errorAt(1, "roof;repeat 2(nights 1;)^nights 1;");
         Text.errorAt(1, "roof;repeat 2(nights 1;);^)");
+        Text.errorAt(1, "roof;repeat 2^)nights 1;);");
+        Text.errorAt(1, "roof;repeat 2(nights 1;^(;");
+        Text.errorAt(1, "roof;repeat 2(^();");
     }
 
     /** "also if it is found in a later repetition": before what stands behind the repeat, and before its own end. */

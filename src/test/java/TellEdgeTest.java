@@ -261,6 +261,13 @@ public final class TellEdgeTest {
                 Check.that("the wider of two side by side", side.widestWay(0, 1), Math.max(width, next));
             }
         }
+        // Nine gutters in a row are the longest way, and one gutter less.
+        Twin row = new Twin("roof;repeat 10(chimney 1;);gutter 0 1 9;gutter 1 2 8;gutter 2 3 7;gutter 3 4 6;gutter 4 5 5;gutter 5 6 4;gutter 6 7 3;"
+                + "gutter 7 8 2;gutter 8 9 1;");
+        row.tells("nine gutters", 1, x -> x.widestWay(0, 9));
+        row.tells("nine gutters back", 1, x -> x.widestWay(9, 0));
+        row.tells("eight gutters", 2, x -> x.widestWay(0, 8));
+        row.tells("eight gutters back", 1, x -> x.widestWay(9, 1));
         // "if there were no other cats and no owners"
         new Twin("roof;repeat 3(chimney 1;);gutter 0 1 6;gutter 1 2 7;cat 0 1 1;claim 0;step 0 0;").tells("a cat and an owner in the way", 6, x -> x.widestWay(0, 2));
     }
@@ -324,6 +331,16 @@ public final class TellEdgeTest {
         new Twin(row + "cat 9 1 1;").tells("a cat at the end", 511, x -> x.reachable(0));
         new Twin(row + "cat 9 1 1;").tells("a cat at the end", NONE, x -> x.stepsTo(0, 9));
         new Twin(row + "cat 1 1 1;").tells("a cat at the start", 1, x -> x.reachable(0));
+        // The same down to chimney 0.
+        String down = row.replace("cat 0 5 1;", "cat 9 5 1;");
+        for (int each = 0; each < 10; each++) {
+            int chimney = each;
+            new Twin(down).tells("stepsTo " + chimney, 9 - chimney, x -> x.stepsTo(0, chimney));
+        }
+        new Twin(down).tells("all", 1023, x -> x.reachable(0));
+        new Twin(down + "cat 0 1 1;").tells("a cat at the end", 1022, x -> x.reachable(0));
+        new Twin(down + "cat 0 1 1;").tells("a cat at the end", NONE, x -> x.stepsTo(0, 0));
+        new Twin(down + "cat 0 1 1;claim 1;step 1 0;").tells("an owner at the end, and its cat before", 1020, x -> x.reachable(0));
     }
 
     /** Sets that hold nothing, the first, the last, or all. */
@@ -340,6 +357,9 @@ public final class TellEdgeTest {
         Twin all = new Twin(roof + star + others);
         all.tells("all other cats", 254, x -> x.preyOf(0));
         all.tells("nobody", 0, x -> x.preyOf(7));
+        FULL_TWIN.tells("twenty gutters, but none between them", 7, x -> x.whyNoChase(0, 7));
+        FULL_TWIN.tells("nobody", 0, x -> x.preyOf(0));
+        FULL_TWIN.tells("no gutter here", 0, x -> x.openGutters(0));
         new Twin("roof;repeat 8(chimney 1;);" + star + others + "cat 0 1 9;").tells("all other cats", 127, x -> x.preyOf(7));
     }
 

@@ -619,5 +619,17 @@ public final class TermsEdgeTest {
         x.undo();
         x.addGutter(4, 0, 1);
         Check.that("by a gutter too narrow for both", x.choirOf(2), 15);
+        // An empty chimney does not connect: neither the first nor the last one.
+        for (int empty = 0; empty < 3; empty++) {
+            int one = (empty + 1) % 3;
+            int other = (empty + 2) % 3;
+            RooftopCats y = Text.roof("roof;repeat 3(chimney 1;);cat " + one + " 1 1;cat " + other + " 1 1;gutter " + empty + " " + one + " 9;gutter "
+                    + other + " " + empty + " 9;");
+            Check.that("around " + empty, y.choirOf(0), 1);
+            Check.that("choirs around " + empty, y.choirCount(), 2);
+            y.addGutter(one, other, 1);
+            Check.that("connected beside " + empty, y.choirOf(1), 3);
+            Check.that("choirs beside " + empty, y.choirCount(), 1);
+        }
     }
 }
