@@ -23,7 +23,7 @@ public final class ScriptWalkTest {
         Check.end("ScriptWalkTest");
     }
 
-    private static String script(Random random) {
+    static String script(Random random) {
         StringBuilder text = new StringBuilder("roof;");
         if (random.nextInt(4) > 0) {
             text.append("chimney 9;chimney 3;chimney 6;gutter 0 1 8;gutter 1 2 9;cat 0 3 4;cat 1 2 9;");
