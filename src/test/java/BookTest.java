@@ -9,7 +9,7 @@ import java.util.TreeSet;
 
 /** All promises: runs of at most 512 calls, made by chance, in which the class answers as ByTheBook does. */
 public final class BookTest {
-    private static final int RUNS = 1200;
+    private static final int RUNS = 600;
     private static final int CALLS = 512;
 
     /** The kinds of numbers: c a cat, h a chimney, g a gutter, w a warmth, s a size, f fish, t and n nights, m nights or none. */
@@ -25,8 +25,17 @@ public final class BookTest {
     private static final String CROWD = "roof;chimney 9;chimney 3;chimney 6;chimney 0;chimney 9;chimney 4;chimney 8;"
             + "gutter 0 1 9;gutter 1 2 6;gutter 2 3 9;gutter 3 4 5;gutter 4 0 3;gutter 4 5 7;gutter 5 6 9;"
             + "cat 0 1 9;claim 0;cat 2 3 4;cat 3 2 8;claim 2;cat 6 5 1;cat 5 4 2;claim 3;";
+    /** A strong cat that owns four chimneys, among weak ones that own theirs. */
+    private static final String GREEDY = "roof;repeat 9(chimney 7;);gutter 0 1 9;gutter 1 2 9;gutter 2 3 9;gutter 3 4 8;gutter 4 5 8;"
+            + "gutter 3 6 9;gutter 6 7 9;gutter 7 0 9;cat 0 2 9;claim 0;step 0 0;claim 0;step 0 1;claim 0;step 0 2;claim 0;"
+            + "cat 4 1 2;claim 1;cat 5 1 1;claim 2;cat 6 2 3;claim 3;cat 7 3 1;";
+    private static final String FULL = "roof;repeat 10(chimney 5;);cat 0 1 1;cat 1 1 2;cat 2 1 3;cat 3 1 4;cat 4 1 5;cat 5 1 6;cat 6 1 7;cat 7 1 8;"
+            + "claim 0;claim 1;claim 2;claim 3;claim 4;claim 5;claim 6;claim 7;gutter 0 1 3;gutter 1 2 3;gutter 2 3 3;gutter 3 4 3;gutter 7 8 3;";
     private static final String[] STARTS = {Text.FIRST, CROWD, CROWD + "repeat 16(nights 30;);repeat 16(nights 30;);nights 20;",
-        CROWD + "repeat 6(gutter 0 5 2;gutter 6 1 4;);", CROWD + "chimney 2;chimney 2;kitten 2 7;repeat 5(nights 8;);"};
+        CROWD + "repeat 6(gutter 0 5 2;gutter 6 1 4;);", CROWD + "chimney 2;chimney 2;kitten 2 7;repeat 5(nights 8;);", GREEDY, GREEDY, FULL};
+    /** The commands of scripts, with the kinds of their numbers. */
+    private static final String[] COMMANDS = {"chimney w", "gutter hhs", "cat hss", "step cg", "step cg", "claim c", "claim c", "abandon h",
+        "chase cc", "chase cc", "truce ccft", "kitten ss", "yes c", "yes c", "no c", "nights n"};
 
     private static final TreeSet<String> outcomes = new TreeSet<>();
 
@@ -44,19 +53,32 @@ public final class BookTest {
         for (int seed = 0; seed < RUNS; seed++) {
             new BookTest(seed).run();
         }
-        List<String> calls = new ArrayList<>(Arrays.asList(CHANGES));
-        calls.addAll(Arrays.asList(QUESTIONS));
-        calls.addAll(List.of("append xxxxx", "truncateInput l", "runScript"));
-        for (Method method : RooftopCats.class.getDeclaredMethods()) {
-            if (Modifier.isPublic(method.getModifiers())) {
-                Check.that(method.getName() + " is called", calls.stream().anyMatch(call -> call.split(" ")[0].equals(method.getName())), true);
-                everyOutcome(method);
-            }
+        for (String start : STARTS) {
+            Check.that(start + " has no error", ByTheBook.runs(start), true);
         }
+        everyNumber("whyNoStep", 0, 1, 2, 3, 4);
+        everyNumber("whyNoClaim", 0, 5, 6);
+        everyNumber("whyNoChase", 0, 7, 8, 9);
+        everyNumber("scriptErrorKind", 0, 1, 2, 3, 4, 5);
+        everyCall();
         Check.end("BookTest");
     }
 
-    /** Each call has answered, and has thrown each exception that it may throw. */
+    private static void everyNumber(String name, int... numbers) {
+        for (int number : numbers) {
+            Check.that(name + " answers " + number, outcomes.contains(name + " " + number), true);
+        }
+    }
+
+    private static void everyCall() {
+        for (Method method : RooftopCats.class.getDeclaredMethods()) {
+            if (Modifier.isPublic(method.getModifiers())) {
+                everyOutcome(method);
+            }
+        }
+    }
+
+    /** The call has answered, and has thrown each exception that it may throw. */
     private static void everyOutcome(Method method) {
         Check.that(method.getName() + " answers", outcomes.contains(method.getName() + " answers"), true);
         for (Class<?> exception : method.getExceptionTypes()) {
@@ -66,15 +88,22 @@ public final class BookTest {
     }
 
     private void run() {
-        script(STARTS[random.nextInt(STARTS.length)]);
+        if (random.nextInt(5) > 0) {
+            script(STARTS[random.nextInt(STARTS.length)]);
+        }
         while (made.size() < CALLS && alike) {
             int dice = random.nextInt(400);
-            if (dice < 2) {
+            if (dice < 1) {
                 script(ScriptWalkTest.script(random));
+            } else if (dice < 2) {
+                script(longScript());
             } else if (dice < 3) {
                 script(STARTS[random.nextInt(STARTS.length)]);
             } else if (dice < 4) {
-                call("append", bytes(random.nextInt(4) == 0));
+                // Now and then until the buffer is full, and once more.
+                for (int i = random.nextInt(4) == 0 ? 31 : 1; i > 0; i--) {
+                    call("append", bytes(random.nextInt(4) == 0));
+                }
             } else if (dice < 6) {
                 call("truncateInput", number(0, 20));
             } else if (dice < 130) {
@@ -99,6 +128,28 @@ public final class BookTest {
         call("runScript");
         call("scriptErrorKind");
         call("scriptErrorOffset");
+    }
+
+    /** Commands that are allowed one behind the other, but for the last one now and then. */
+    private String longScript() {
+        String text = STARTS[random.nextInt(STARTS.length)];
+        for (int i = 0; i < 60; i++) {
+            String more = text + statement();
+            if (more.length() <= 600 && ByTheBook.runs(more)) {
+                text = more;
+            }
+        }
+        return random.nextInt(3) == 0 ? text + statement() : text;
+    }
+
+    private String statement() {
+        String[] parts = COMMANDS[random.nextInt(COMMANDS.length)].split(" ");
+        StringBuilder command = new StringBuilder(parts[0]);
+        for (char kind : parts[1].toCharArray()) {
+            int most = kind == 'c' ? 7 : kind == 't' ? 20 : kind == 'n' ? 30 : 9;
+            command.append(' ').append(random.nextInt(40) == 0 ? most + 1 : random.nextInt(most + 1));
+        }
+        return random.nextInt(12) == 0 ? "repeat 2(" + command + ";);" : command + ";";
     }
 
     private Object[] bytes(boolean wild) {
@@ -152,6 +203,9 @@ public final class BookTest {
         String got = answer(x, name, arguments);
         String due = answer(book, name, arguments);
         outcomes.add(name + (due.startsWith("throws") ? " " + due : " answers"));
+        if (name.startsWith("whyNo") || name.equals("scriptErrorKind")) {
+            outcomes.add(name + " " + due);
+        }
         alike = got.equals(due);
         Check.that(alike ? name : String.join("\n", made), got, due);
     }

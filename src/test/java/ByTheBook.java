@@ -705,6 +705,16 @@ public final class ByTheBook {
 
     // ---- scripts
 
+    /** Whether a script has no error. */
+    static boolean runs(String text) {
+        try {
+            new Reading(text, new ByTheBook(new State())).script();
+            return true;
+        } catch (Mistake mistake) {
+            return false;
+        }
+    }
+
     private static final class Mistake extends RuntimeException {
         private static final long serialVersionUID = 1L;
         final int kind;
