@@ -32,7 +32,8 @@ public final class BookTest {
     private static final String FULL = "roof;repeat 10(chimney 5;);cat 0 1 1;cat 1 1 2;cat 2 1 3;cat 3 1 4;cat 4 1 5;cat 5 1 6;cat 6 1 7;cat 7 1 8;"
             + "claim 0;claim 1;claim 2;claim 3;claim 4;claim 5;claim 6;claim 7;gutter 0 1 3;gutter 1 2 3;gutter 2 3 3;gutter 3 4 3;gutter 7 8 3;";
     private static final String[] STARTS = {Text.FIRST, CROWD, CROWD + "repeat 16(nights 30;);repeat 16(nights 30;);nights 20;",
-        CROWD + "repeat 6(gutter 0 5 2;gutter 6 1 4;);", CROWD + "chimney 2;chimney 2;kitten 2 7;repeat 5(nights 8;);", GREEDY, GREEDY, FULL};
+        CROWD + "repeat 6(gutter 0 5 2;gutter 6 1 4;);", CROWD + "repeat 13(gutter 0 5 2;);",
+        CROWD + "chimney 2;chimney 2;kitten 2 7;repeat 5(nights 8;);", GREEDY, GREEDY, FULL};
     /** The commands of scripts, with the kinds of their numbers. */
     private static final String[] COMMANDS = {"chimney w", "gutter hhs", "cat hss", "step cg", "step cg", "claim c", "claim c", "abandon h",
         "chase cc", "chase cc", "truce ccft", "kitten ss", "yes c", "yes c", "no c", "nights n"};
@@ -100,10 +101,9 @@ public final class BookTest {
             } else if (dice < 3) {
                 script(STARTS[random.nextInt(STARTS.length)]);
             } else if (dice < 4) {
-                // Now and then until the buffer is full, and once more.
-                for (int i = random.nextInt(4) == 0 ? 31 : 1; i > 0; i--) {
-                    call("append", bytes(random.nextInt(4) == 0));
-                }
+                call("append", bytes(random.nextInt(4) == 0));
+            } else if (dice < 5 && random.nextInt(3) == 0) {
+                fillBuffer();
             } else if (dice < 6) {
                 call("truncateInput", number(0, 20));
             } else if (dice < 130) {
@@ -112,6 +112,15 @@ public final class BookTest {
                 call(QUESTIONS[random.nextInt(QUESTIONS.length)]);
             }
         }
+    }
+
+    /** As full as it gets, and then just so far that a call more has a place, or has none. */
+    private void fillBuffer() {
+        for (int i = 0; i < 31; i++) {
+            call("append", bytes(false));
+        }
+        call("truncateInput", number(579, 581));
+        call("append", bytes(false));
     }
 
     private void script(String text) {
